@@ -2,11 +2,14 @@
 public final class ActionsTest {
     public static void main(String[] args) {
         promise10Come();
+        promise10ComeBehindOneWhoLeft();
         promise10Wrong();
         promise11Leave();
+        promise11EverythingMoves();
         promise12Reasons();
         promise12Passing();
         promise12GettingInAndOut();
+        promise12HomeWithoutGrudges();
         promise12NineGrudgesStayNine();
         promise13Rest();
         promise14Set();
@@ -31,6 +34,20 @@ public final class ActionsTest {
         Check.is("home", x.guestOf(3, 1), 3);
         Check.is("weight", x.guestOf(3, 2), 4);
         Check.is("no grudges", x.guestOf(3, 5), 0);
+    }
+
+    /** Guest 1 rides from 3 to 0 and gets a grudge at 1, then leaves: nothing of that stays for the next 1. */
+    private static void promise10ComeBehindOneWhoLeft() {
+        ButtonGuests x = Check.loaded("Hg3561g0314p0p1");
+        Check.is("grudges of the one who leaves", x.guestOf(1, 5), 1);
+        Check.is("presses of the one who leaves", x.guestOf(1, 6), 1);
+        Check.is("floors of the one who leaves", x.guestOf(1, 7), 3);
+        x.leave(1);
+        Check.is("the next one's number", x.come(5, 2, 4, 1), 1);
+        Check.is("the next one's state", x.guestOf(1, 3), 0);
+        Check.is("the next one's grudges", x.guestOf(1, 5), 0);
+        Check.is("the next one's presses", x.guestOf(1, 6), 0);
+        Check.is("the next one's floors", x.guestOf(1, 7), 0);
     }
 
     private static void promise10Wrong() {
@@ -82,6 +99,24 @@ public final class ActionsTest {
         Check.noIndex("leave(0) of nobody", () -> x.leave(0));
         Check.is("undo of leave", x.undo(), 3);
         Check.is("one is back", x.guestOf(0, 5), grudges[2]);
+    }
+
+    private static void promise11EverythingMoves() {
+        ButtonGuests x = Check.loaded("Hg6561g3524g0353g4614p1p2p1");
+        int[][] before = new int[4][8];
+        for (int g = 0; g < 4; g++) {
+            for (int what = 0; what < 8; what++) {
+                before[g][what] = x.guestOf(g, what);
+            }
+        }
+        Check.is("floors of 2", before[2][7], 6);
+        Check.is("floor of 3", before[3][4], 6);
+        x.leave(1);
+        for (int g = 0; g < 3; g++) {
+            for (int what = 0; what < 8; what++) {
+                Check.is("guestOf(" + g + ", " + what + ") behind leave(1)", x.guestOf(g, what), before[g < 1 ? g : g + 1][what]);
+            }
+        }
     }
 
     private static void promise12Reasons() {
@@ -163,6 +198,15 @@ public final class ActionsTest {
         ButtonGuests z = Check.loaded("He004g1124g2204p0p1");
         Check.is("out before in", z.about(4), 1);
         Check.is("4 got in where 4 got out", z.guestOf(1, 3), 1);
+    }
+
+    private static void promise12HomeWithoutGrudges() {
+        ButtonGuests x = Check.loaded("Hg3321g0361p0p1");
+        Check.is("a rider whose home floor was passed", x.guestOf(0, 5), 1);
+        x.come(2, 0, 6, 1);
+        x.press(2);
+        Check.is("the rider is home now", x.guestOf(0, 3), 2);
+        Check.is("home without grudges", x.guestOf(0, 5), 0);
     }
 
     /** Guest 0 goes up and down past guest 1. */
@@ -258,6 +302,7 @@ public final class ActionsTest {
         }
         for (int i = 13; i >= 0; i--) {
             Check.is("undo to " + i, x.undo(), i);
+            Check.is("seconds of undo to " + i, x.about(6), (i + 6) * 30);
         }
         Check.is("the six oldest are forgotten", x.about(6), 6 * 30);
         Check.noState("undo behind 14", x::undo);
