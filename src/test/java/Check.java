@@ -1,7 +1,17 @@
+import java.util.ArrayList;
+import java.util.LinkedHashSet;
+import java.util.List;
+import java.util.Set;
+
 /** What the tests share: compares answers, counts what is wrong, ends with exit code 1 if anything was. */
 final class Check {
+    /** Every sentence that has a test of its own, and those of them whose tests found something wrong. */
+    static final List<String> SENTENCES = new ArrayList<>();
+    static final Set<String> BROKEN = new LinkedHashSet<>();
+
     private static int wrong = 0;
     private static int checked = 0;
+    private static String sentence = null;
 
     private Check() {
     }
@@ -48,7 +58,36 @@ final class Check {
 
     private static void tell(String fault) {
         wrong++;
-        System.out.println(fault);
+        if (sentence == null) {
+            System.out.println(fault);
+        } else {
+            BROKEN.add(sentence);
+            System.out.println(sentence + "\n    " + fault);
+        }
+    }
+
+    /** The test of a sentence of the document, in its words. */
+    static void term(String words, Runnable test) {
+        sentence("Terms: " + words, test);
+    }
+
+    static void promise(int number, String words, Runnable test) {
+        sentence("Promise " + number + ": " + words, test);
+    }
+
+    static void sentence(String words, Runnable test) {
+        sentence = words;
+        SENTENCES.add(words);
+        int before = checked;
+        try {
+            test.run();
+        } catch (RuntimeException e) {
+            tell("threw " + e);
+        }
+        if (checked == before) {
+            tell("nothing was checked");
+        }
+        sentence = null;
     }
 
     static void end() {
@@ -95,6 +134,46 @@ final class Check {
             }
         }
         return all.toString();
+    }
+
+    /** All that an object holds. This uses the object up, and makes some 280 calls of its 512. */
+    static String everything(ButtonGuests x) {
+        StringBuilder all = new StringBuilder(state(x));
+        all.append("text ").append(x.errorPosition()).append(' ').append(x.clearText());
+        for (int left = memory(x, all); left > 0; left--) {
+            memory(x, all);
+        }
+        for (int slot = 0; slot < 2; slot++) {
+            try {
+                all.append(" slot ").append(x.restore(slot)).append(": ").append(state(x));
+            } catch (IllegalStateException e) {
+                all.append(" slot empty");
+            }
+        }
+        return all.toString();
+    }
+
+    private static int memory(ButtonGuests x, StringBuilder all) {
+        int left = 0;
+        try {
+            left = x.undo();
+            all.append(" behind undo ").append(left).append(':');
+            for (int what = 0; what < 12; what++) {
+                all.append(' ').append(x.about(what));
+            }
+        } catch (IllegalStateException e) {
+            all.append(" nothing remembered");
+        }
+        return left;
+    }
+
+    /** 0 and 1 call the elevator to 2 and back to 0, n times in all: who waits at 1 (or rides, at home at 1) is passed. */
+    static ButtonGuests passed(int n, String guests) {
+        StringBuilder text = new StringBuilder("Hg2061g0461").append(guests);
+        for (int i = 0; i < n; i++) {
+            text.append(i % 2 == 0 ? "p0" : "p1");
+        }
+        return loaded(text.toString());
     }
 
     static void sameState(String what, ButtonGuests x, String due) {
